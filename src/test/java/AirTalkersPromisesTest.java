@@ -92,8 +92,10 @@ public final class AirTalkersPromisesTest {
     AirTalkers x = new AirTalkers();
     due("row(0, 0)", x.row(0, 0), 0);
     due("row(5, 40)", x.row(5, 40), 40);
+    due("lay(5, 0, 8)", x.lay(5, 0, 8), 1);
     due("lay(5, 39, 7)", x.lay(5, 39, 7), 1);
     due("row(5, 40) anew", x.row(5, 40), 40);
+    told(x, "at(5, 0) anew", x.at(5, 0), 1, 0);
     told(x, "at(5, 39) anew", x.at(5, 39), 1, 0);
     refused(x, BAD, "row(-1, 0)", () -> x.row(-1, 0));
     refused(x, BAD, "row(6, 0)", () -> x.row(6, 0));
@@ -173,6 +175,8 @@ public final class AirTalkersPromisesTest {
     told(x, "mean of 7 by 3", x.mean(0), 1, 2);
     lay(x, 0, -1, -2, -4);
     told(x, "mean of -7 by 3", x.mean(0), 1, -2);
+    lay(x, 0, -7);
+    told(x, "mean of one", x.mean(0), 1, -7);
     lay(x, 0, HIGH, HIGH);
     told(x, "mean of the highest", x.mean(0), 1, HIGH);
     lay(x, 0, LOW, LOW, LOW);
@@ -243,6 +247,10 @@ public final class AirTalkersPromisesTest {
     fault("P010 p010", 0);
     fault("p010 7010", 5);
     fault("p010 p010\t", 9);
+    AirTalkers shorter = new AirTalkers();
+    write(shorter, 0, "p010 p010");
+    write(shorter, 0, "p010 p01");
+    due("fault of a TEXT that was longer", shorter.fault(0), 8);
     AirTalkers x = new AirTalkers();
     refused(x, BAD, "fault(4)", () -> x.fault(4));
     refused(x, BAD, "fault(-1)", () -> x.fault(-1));
@@ -259,7 +267,9 @@ public final class AirTalkersPromisesTest {
     write(x, 0, "p123 d456 l789");
     due("air(0)", x.air(0), 3);
     x.slot();
+    x.keep(0);
     x.keep(1);
+    x.keep(2);
     write(x, 1, "y019 s910");
     write(x, 2, "y019");
     refused(x, BAD, "air(4)", () -> x.air(4));
@@ -395,7 +405,8 @@ public final class AirTalkersPromisesTest {
     refused(x, BAD, "give(2, 1)", () -> x.give(2, 1));
     refused(x, BAD, "give(-1, 1)", () -> x.give(-1, 1));
     due("DEEDS", x.count(2), 4);
-    for (int n = 4; n < 40; n++) x.slot();
+    for (int n = 4; n < 39; n++) x.first(1, 1 - n % 2);
+    due("the 40th DEED", x.give(1, 1), 2);
     refused(x, FULL, "give(1, 1)", () -> x.give(1, 1));
     refused(x, SPENT, "give(0, 1): FULL last", () -> x.give(0, 9));
     AirTalkers waits = airBehind("p112 p212", 1);
@@ -415,8 +426,11 @@ public final class AirTalkersPromisesTest {
     due("neither HEARD nor LOST", x.count(4) + x.count(5), 0);
     x.give(1, 9);
     x.give(1, 9);
-    for (int n = 4; n < 40; n++) x.first(0, n % 2 * 2);
+    for (int n = 4; n < 39; n++) x.first(0, n % 2 * 2);
+    due("the 40th DEED", x.drop(1), 20);
     due("DEEDS", x.count(2), 40);
+    x.undo(39);
+    x.slot();
     refused(x, FULL, "drop(1)", () -> x.drop(1));
     refused(x, STATE, "drop(0): FULL last", () -> x.drop(0));
   }
@@ -430,9 +444,10 @@ public final class AirTalkersPromisesTest {
     refused(x, BAD, "first(0, 10)", () -> x.first(0, 10));
     refused(x, BAD, "first(0, -1)", () -> x.first(0, -1));
     refused(x, BAD, "first(2, 0)", () -> x.first(2, 0));
-    for (int n = 3; n < 40; n++) x.slot();
+    for (int n = 3; n < 39; n++) x.slot();
+    due("the 40th DEED", x.first(0, 4), 0);
     refused(x, FULL, "first(0, 5)", () -> x.first(0, 5));
-    refused(x, STATE, "first(0, 0): FULL last", () -> x.first(0, 0));
+    refused(x, STATE, "first(0, 4): FULL last", () -> x.first(0, 4));
   }
 
   static void undoes() {
@@ -599,6 +614,9 @@ public final class AirTalkersPromisesTest {
     due("digest()", x.digest(), digest);
     AirTalkers alone = airOf("p912 p010");
     told(alone, "best(0): the least number", alone.best(0), 0, 2);
+    AirTalkers edge = airOf("d095o415y296y293");
+    told(edge, "best(0) in 200", edge.best(0), 3, 200);
+    told(edge, "best(1) in 200", edge.best(1), 8, 200);
     AirTalkers never = airOf("s011 s011 p010");
     refused(never, NONE, "best(2)", () -> never.best(2));
     refused(x, BAD, "best(2)", () -> x.best(2));
@@ -630,6 +648,8 @@ public final class AirTalkersPromisesTest {
   static void watchRefused(Watch watch) {
     AirTalkers x = airOf("p011 p011");
     x.row(0, 0);
+    x.row(1, 20);
+    due("a ROW of 20", watch.answer(x, 0, 1) == FINDING ? 1 : 0, 0);
     x.row(1, 21);
     lay(x, 2, 2, 8);
     lay(x, 3, -1);
@@ -690,6 +710,10 @@ public final class AirTalkersPromisesTest {
     told(x, "test by 2", x.test(1, 0), 10, 3);
     lay(x, 0, 2, 0, 2, 0, 0, 2, 0, 0, 0, 1);
     told(x, "test of one KIND", x.test(1, 0), 1, 1);
+    AirTalkers plain = airOf("s019 p013");
+    lay(plain, 0, 2, 1, 2, 1, 1, 2, 1, 1, 1, 2);
+    due("kinds: PLAIN alone", plain.kinds(1, 0), 1);
+    told(plain, "test of PLAIN alone", plain.test(1, 0), 1, 1);
     lay(x, 0, 7);
     refused(x, NONE, "test of no KIND", () -> x.test(1, 0));
     watchRefused((y, i, r) -> y.test(i, r));
