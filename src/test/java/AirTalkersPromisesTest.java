@@ -1,4 +1,7 @@
-/** The promises of the document one by one, with answers worked out by hand. */
+/**
+ * The promises of the document one by one, with answers worked out by hand; but for the two airs that end
+ * in just 200 slots (edgeOfEnd, bests): those a search by the class found, and the model answers the same.
+ */
 public final class AirTalkersPromisesTest {
   static final int BAD = -1, FULL = -2, FINDING = -3, STATE = -4, SPENT = -6, NONE = -9;
   static final int LOW = Integer.MIN_VALUE, HIGH = Integer.MAX_VALUE;
