@@ -326,7 +326,7 @@ public final class AirTalkers {
         aside.become(now);
         int end = aside.goToEnd();
         if (end != NONE) {
-            toldAsked = aside.lost;
+            toldAsked = aside.lost - now.lost;
         }
         return end;
     }

@@ -187,7 +187,7 @@ public final class AirTalkersModelTest {
     int on(int k) { if (!in(k, 0, 2)) return BAD; if (kept.get(k) == null) return find(1); past = new ArrayList<>(kept.get(k)); return done(); }
     int talks() { List<Integer> who = now().talkers(); asked = who.size() == 1 ? 1 : 0; return bits(who); }
     int later(int i, int n) { if (!in(i, 0, size() - 1) || !in(n, 0, 100)) return BAD; World w = now().behind(n); asked = w.heard - now().heard; return w.ones.get(i).letters; }
-    int ends() { if (size() == 0) return STATE; int e = now().end(); if (e != NONE) asked = now().behind(e).lost; return e; }
+    int ends() { if (size() == 0) return STATE; int e = now().end(); if (e != NONE) asked = now().behind(e).lost - now().lost; return e; }
     int clash() {
       if (size() == 0) return STATE;
       World w = now().twin();

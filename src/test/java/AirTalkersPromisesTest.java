@@ -552,12 +552,29 @@ public final class AirTalkersPromisesTest {
     AirTalkers shy = airOf("y011 y011");
     told(shy, "ends() of SHY ones", shy.ends(), 10, 2);
     for (int n = 0; n < 10; n++) shy.slot();
-    told(shy, "ends() of SHY ones, LOST ahead", shy.ends(), 0, 2);
+    told(shy, "ends() of SHY ones, all LOST ahead", shy.ends(), 0, 0);
+    endBehindLost();
     AirTalkers never = airOf("s011 s011");
     refused(never, NONE, "ends() of STUBBORN ones", () -> never.ends());
     AirTalkers none = new AirTalkers();
     refused(none, STATE, "ends() without STATIONS", () -> none.ends());
     edgeOfEnd();
+  }
+
+  /** Both give up in the SLOTS 9 and 20: what was LOST ahead of the call is none of what it tells. */
+  static void endBehindLost() {
+    AirTalkers x = airOf("y012 y012");
+    told(x, "ends() of SHY ones, none LOST yet", x.ends(), 21, 4);
+    for (int n = 0; n < 9; n++) x.slot();
+    told(x, "ends() in the SLOT of giving up", x.ends(), 12, 4);
+    x.slot();
+    told(x, "ends() behind giving up", x.ends(), 11, 2);
+    due("LOST so far", x.count(5), 2);
+    x.slot();
+    x.drop(0);
+    told(x, "ends() of one that is alone", x.ends(), 1, 0);
+    x.undo(11);
+    told(x, "ends() with that undone", x.ends(), 10, 2);
   }
 
   /** s0 clashes with s1 in every second SLOT: 2 for each LETTER of it, then 1 for each of the other one. */
