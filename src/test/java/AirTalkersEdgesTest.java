@@ -505,7 +505,7 @@ public final class AirTalkersEdgesTest {
     });
     edge("Behind the CLASH number c (1, 2, .. in a row) a PLAIN one WAITS FIRST and c times STEP (64 in all at most)", AirTalkersEdgesTest::plainWaits);
     outOfReach("a PLAIN one WAITS FIRST and c times STEP (64 in all at most)",
-        "By its own WAIT a PLAIN one can't show it: 65 takes CLASH 7 (STEP 9, FIRST 2 or more), which comes in SLOT 201 at the soonest, and what is "
+        "By its own WAIT a PLAIN one can't show it: 65 takes CLASH 7 (STEP 9, FIRST 2; or 8 and 9), which comes in SLOT 201 at the soonest, and what is "
         + "asked aside ends by SLOT 240, ahead of 201 + 65; so it is shown by mark(), which asks for 'a PLAIN one alike'.");
     edge("a DOUBLE one FIRST and STEP times 2 to the c less 1 (64 in all at most)", AirTalkersEdgesTest::doubleWaits);
     edge("a STUBBORN one FIRST alone", () -> {
